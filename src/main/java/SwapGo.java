@@ -490,8 +490,8 @@ public final class SwapGo {
     /**
      * The needs to come, and the plan kept. A plan is right just when no hour has more than L and
      * when from each hour on there are no more charges than needs, all together being as many as
-     * all needs. Such bounds on tails let the cheapest hour be filled first, as far as they go
-     * (the early one of equal hours), and no later hour can want anything of it back.
+     * all needs. As those tails lie one in another, it is best to fill the cheapest hour first (the
+     * early one of equal hours) as far as they let: no other hour can want any of it back.
      */
     private static final class ChargePlan {
         static final int UNFILLED = -1;
@@ -527,7 +527,7 @@ public final class SwapGo {
             return keepDraft();
         }
 
-        void begin(int[] prices, int firstHour) {
+        private void begin(int[] prices, int firstHour) {
             int total = 0;
             for (int i = size - 1; i >= 0; i--) {
                 total += needs[i];
@@ -537,7 +537,7 @@ public final class SwapGo {
             }
         }
 
-        int cheapestUnfilled() {
+        private int cheapestUnfilled() {
             int cheapest = NONE;
             for (int i = 0; i < size; i++) {
                 if (draft[i] == UNFILLED
@@ -548,7 +548,7 @@ public final class SwapGo {
             return cheapest;
         }
 
-        void fill(int i, int lines) {
+        private void fill(int i, int lines) {
             int most = lines;
             for (int k = 0; k <= i; k++) {
                 most = Math.min(most, unmet[k]);
@@ -559,7 +559,7 @@ public final class SwapGo {
             draft[i] = most;
         }
 
-        int keepDraft() {
+        private int keepDraft() {
             int sum = 0;
             for (int i = 0; i < size; i++) {
                 kept[i] = draft[i];
@@ -590,7 +590,6 @@ public final class SwapGo {
 
         void addSurplus(int cabinet, int more) {
             surplus[cabinet] = more;
-            isVisited[cabinet] = false;
             if (more != 0) {
                 stops++;
             }
@@ -601,7 +600,8 @@ public final class SwapGo {
             return shortest;
         }
 
-        void extend(Spots spots, int depth, int x, int y, int load, int length) {
+        private void extend(Spots spots, int depth, int x, int y, int load, int length) {
+            // The way home is straight, and no stop on it makes it shorter.
             int atLeast = length + x + y;
             if (shortest != IMPOSSIBLE && atLeast >= shortest) {
                 return;
@@ -622,7 +622,7 @@ public final class SwapGo {
             }
         }
 
-        void keepRow(int length) {
+        private void keepRow(int length) {
             shortest = length;
             keptSize = stops;
             for (int i = 0; i < stops; i++) {
@@ -656,11 +656,13 @@ public final class SwapGo {
         }
 
         /** Of two rows as long as each other the first one has the least place they don't share. */
-        static boolean isFirstRow(int bits, int others) {
-            return (bits & Integer.lowestOneBit(bits ^ others)) != 0;
+        private static boolean isFirstRow(int bits, int others) {
+            int unshared = bits ^ others;
+            int leastUnshared = unshared & -unshared;
+            return (bits & leastUnshared) != 0;
         }
 
-        void measureCabinetWays(Spots cabinetSpots) {
+        private void measureCabinetWays(Spots cabinetSpots) {
             for (int r = 0; r < riders.size; r++) {
                 int way = FAR;
                 for (int c = 0; c < cabinetSpots.size; c++) {
@@ -670,7 +672,7 @@ public final class SwapGo {
             }
         }
 
-        int sumOfWays(int bits) {
+        private int sumOfWays(int bits) {
             int sum = 0;
             for (int r = 0; r < riders.size; r++) {
                 int way = cabinetWays[r];

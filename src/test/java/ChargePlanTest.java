@@ -12,6 +12,7 @@ public final class ChargePlanTest {
         cleared();
         plans();
         wholeRange();
+        noNeedsBehindTooMany();
         Random random = new Random(17);
         for (int i = 0; i < 400; i++) {
             againstAllPlans(random);
@@ -106,6 +107,14 @@ public final class ChargePlanTest {
         Check.due("18: behind the last", x.planned(12), SwapGo.NONE);
         Check.due("18: least", x.planned(Integer.MIN_VALUE), SwapGo.NONE);
         Check.due("18: greatest", x.planned(Integer.MAX_VALUE), SwapGo.NONE);
+    }
+
+    private static void noNeedsBehindTooMany() {
+        SwapGo x = new SwapGo();
+        x.need(3);
+        Check.due("17: more than the lines", x.plan(2), -2);
+        x.clear();
+        Check.due("17: no needs any more", x.plan(2), 0);
     }
 
     private static void againstAllPlans(Random random) {

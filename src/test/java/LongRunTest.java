@@ -4,6 +4,9 @@ import java.util.Random;
 public final class LongRunTest {
     private static final int[] WILD = {Integer.MIN_VALUE, -2, -1, 30, 101, 1001, Integer.MAX_VALUE};
 
+    /** What the model counts; the rest is of plans. */
+    private static final int[] COUNTED = {0, 1, 2, 3, 4, 5, 9, 10, -1};
+
     private final Random random;
     private final SwapGo x = new SwapGo();
     private final Model model = new Model();
@@ -13,7 +16,7 @@ public final class LongRunTest {
     }
 
     public static void main(String[] args) {
-        for (int seed = 0; seed < 600; seed++) {
+        for (int seed = 0; seed < 1000; seed++) {
             LongRunTest run = new LongRunTest(seed);
             for (int call = 0; call < 512; call++) {
                 run.oneCall("seed " + seed + ", call " + call + ": ", call);
@@ -73,9 +76,12 @@ public final class LongRunTest {
     }
 
     private void settingOrPrice(String at) {
-        int hour = any(0, 23);
-        int price = any(0, 1000);
-        Check.due(at + "price", x.price(hour, price) ? 1 : 0, model.price(hour, price));
+        if (random.nextBoolean()) {
+            int hour = any(0, 23);
+            int price = any(0, 1000);
+            Check.due(at + "price", x.price(hour, price) ? 1 : 0, model.price(hour, price));
+            return;
+        }
         int what = any(0, 4);
         int[] most = {400, 100, 1000, 100, 30};
         int v = any(0, what >= 0 && what <= 4 ? most[what] : 1);
@@ -83,13 +89,18 @@ public final class LongRunTest {
     }
 
     private void ask(String at, int cabinet, int pack) {
-        int what = any(0, 9);
-        if (what < 6 || what > 8) {
-            Check.due(at + "count " + what, x.count(what), model.count(what));
+        switch (random.nextInt(3)) {
+            case 0:
+                int what = COUNTED[random.nextInt(COUNTED.length)];
+                Check.due(at + "count " + what, x.count(what), model.count(what));
+                break;
+            case 1:
+                int ofWhat = any(0, 4);
+                Check.due(at + "of " + pack + " " + ofWhat, Check.of(x, pack, ofWhat), model.of(pack, ofWhat));
+                break;
+            default:
+                int inWhat = any(0, 5);
+                Check.due(at + "in " + cabinet + " " + inWhat, x.in(cabinet, inWhat), model.in(cabinet, inWhat));
         }
-        int ofWhat = any(0, 4);
-        Check.due(at + "of " + pack + " " + ofWhat, Check.of(x, pack, ofWhat), model.of(pack, ofWhat));
-        int inWhat = any(0, 5);
-        Check.due(at + "in " + cabinet + " " + inWhat, x.in(cabinet, inWhat), model.in(cabinet, inWhat));
     }
 }
