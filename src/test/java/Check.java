@@ -1,4 +1,7 @@
+import java.util.Arrays;
+import java.util.LinkedHashSet;
 import java.util.NoSuchElementException;
+import java.util.Set;
 import java.util.function.ToIntFunction;
 
 /** What the tests share: comparing an answer with the one that is due, and ending with the result. */
@@ -6,17 +9,54 @@ final class Check {
     /** Stands for the exception that only of() throws. */
     static final int THROWN = Integer.MIN_VALUE;
 
+    private static final Set<String> SENTENCES = new LinkedHashSet<>();
+
+    private static String sentence = "";
+    private static int askedOfSentence = 1;
     private static int wrong = 0;
     private static int asked = 0;
 
     private Check() {
     }
 
+    /** From here on answers are asked for one sentence of the document: where it stands, its words. */
+    static void sentence(String where, String words) {
+        endSentence();
+        sentence = where + " | " + words;
+        askedOfSentence = 0;
+        if (!SENTENCES.add(sentence)) {
+            fail("a second test of the sentence");
+        }
+    }
+
+    /** What is asked from here on is for no sentence. */
+    static void endSentences() {
+        endSentence();
+        sentence = "";
+        askedOfSentence = 1;
+    }
+
+    /** All sentences that answers were asked for. */
+    static Set<String> sentences() {
+        return SENTENCES;
+    }
+
+    private static void endSentence() {
+        if (askedOfSentence == 0) {
+            fail("nothing was asked");
+        }
+    }
+
+    private static void fail(String text) {
+        wrong++;
+        System.out.println((sentence.isEmpty() ? "" : "\"" + sentence + "\": ") + text);
+    }
+
     static void due(String what, int got, int want) {
         asked++;
+        askedOfSentence++;
         if (got != want) {
-            wrong++;
-            System.out.println(what + " answered " + got + ", due is " + want);
+            fail(what + " answered " + got + ", due is " + want);
         }
     }
 
@@ -26,10 +66,14 @@ final class Check {
 
     static void due(String what, String got, String want) {
         asked++;
+        askedOfSentence++;
         if (!got.equals(want)) {
-            wrong++;
-            System.out.println(what + "\n  answered " + got + "\n  due is   " + want);
+            fail(what + "\n  answered " + got + "\n  due is   " + want);
         }
+    }
+
+    static void due(String what, int[] got, int... want) {
+        due(what, Arrays.toString(got), Arrays.toString(want));
     }
 
     static int of(SwapGo x, int pack, int what) {
@@ -44,11 +88,13 @@ final class Check {
     static String snapshot(SwapGo x) {
         StringBuilder text = new StringBuilder();
         row(text, "count", 10, x::count);
-        for (int c = 0; c < x.count(0); c++) {
+        int cabinets = x.count(0);
+        for (int c = 0; c < cabinets; c++) {
             int cabinet = c;
             row(text, "in " + c, 5, what -> x.in(cabinet, what));
         }
-        for (int p = 0; p < x.count(1); p++) {
+        int packs = x.count(1);
+        for (int p = 0; p < packs; p++) {
             int pack = p;
             row(text, "of " + p, 4, what -> of(x, pack, what));
         }
@@ -58,7 +104,7 @@ final class Check {
         return text.toString();
     }
 
-    private static void row(StringBuilder text, String name, int length, ToIntFunction<Integer> answer) {
+    static void row(StringBuilder text, String name, int length, ToIntFunction<Integer> answer) {
         text.append(' ').append(name).append(':');
         for (int i = 0; i < length; i++) {
             text.append(' ').append(answer.applyAsInt(i));
@@ -66,7 +112,9 @@ final class Check {
     }
 
     static void end(String test) {
-        System.out.println(test + ": " + asked + " answers asked, " + wrong + " not as due");
+        endSentence();
+        String ofSentences = SENTENCES.isEmpty() ? "" : " for " + SENTENCES.size() + " sentences";
+        System.out.println(test + ": " + asked + " answers asked" + ofSentences + ", " + wrong + " not as due");
         if (wrong != 0 || asked == 0) {
             System.exit(1);
         }

@@ -1,15 +1,18 @@
 import java.util.Random;
 
-/** Promises 2 to 14 over long runs of calls, right and wrong ones, each answer against the model's. */
+/**
+ * All promises over long runs of calls, right and wrong ones, each answer against the models'. A run
+ * has as many calls as the document lets an object have.
+ */
 public final class LongRunTest {
     private static final int[] WILD = {Integer.MIN_VALUE, -2, -1, 30, 101, 1001, Integer.MAX_VALUE};
 
-    /** What the model counts; the rest is of plans. */
-    private static final int[] COUNTED = {0, 1, 2, 3, 4, 5, 9, 10, -1};
+    private static final int CALLS = 512;
 
     private final Random random;
     private final SwapGo x = new SwapGo();
     private final Model model = new Model();
+    private final PlanModel plans = new PlanModel(model);
 
     private LongRunTest(long seed) {
         random = new Random(seed);
@@ -18,11 +21,19 @@ public final class LongRunTest {
     public static void main(String[] args) {
         for (int seed = 0; seed < 1000; seed++) {
             LongRunTest run = new LongRunTest(seed);
-            for (int call = 0; call < 512; call++) {
+            int made = seed % 8 == 0 ? run.goNearTheLastHour() : 0;
+            for (int call = 0; call < CALLS - made; call++) {
                 run.oneCall("seed " + seed + ", call " + call + ": ", call);
             }
         }
         Check.end("LongRunTest");
+    }
+
+    private int goNearTheLastHour() {
+        for (int i = 1; i < 50; i++) {
+            Check.due("hours near the last", x.run(200), model.run(200));
+        }
+        return 49;
     }
 
     private int any(int least, int most) {
@@ -33,16 +44,18 @@ public final class LongRunTest {
     }
 
     private void oneCall(String at, int call) {
-        int kind = call < 40 ? random.nextInt(6) : 4 + random.nextInt(16);
+        int kind = call < 40 ? random.nextInt(6) : 4 + random.nextInt(22);
         int a = any(0, 5);
         int p = any(0, Math.max(0, model.packs.size() - 1));
         int v = any(0, 100);
         switch (kind) {
             case 0:
+                int cabinetY = any(0, 99);
                 int slots = any(1, 8);
                 int lines = any(0, 8);
                 int need = any(0, 8);
-                Check.due(at + "cabinet", x.cabinet(v, v, slots, lines, need), model.cabinet(v, v, slots, lines, need));
+                Check.due(at + "cabinet", x.cabinet(v, cabinetY, slots, lines, need),
+                        model.cabinet(v, cabinetY, slots, lines, need));
                 break;
             case 1: case 2: case 3: case 4:
                 Check.due(at + "pack", x.pack(a, v), model.pack(a, v));
@@ -70,8 +83,56 @@ public final class LongRunTest {
                 int hours = any(0, random.nextInt(20) == 0 ? 200 : 2);
                 Check.due(at + "run", x.run(hours), model.run(hours));
                 break;
+            case 14: case 15: case 16: case 17: case 18: case 19:
+                planCall(at, a);
+                break;
             default:
                 ask(at, a, p);
+        }
+    }
+
+    private void planCall(String at, int a) {
+        int small = any(0, 20);
+        switch (random.nextInt(12)) {
+            case 0: case 1:
+                int v = random.nextBoolean() ? any(0, 20) : any(0, 3);
+                Check.due(at + "need", x.need(v), plans.need(v));
+                break;
+            case 2:
+                if (random.nextInt(4) == 0) {
+                    Check.due(at + "clear", x.clear(), plans.clear());
+                }
+                break;
+            case 3:
+                Check.due(at + "plan " + small, x.plan(small), plans.plan(small));
+                break;
+            case 4:
+                int i = any(0, plans.count(6));
+                Check.due(at + "planned " + i, x.planned(i), plans.planned(i));
+                break;
+            case 5: case 6:
+                int wish = random.nextBoolean() ? any(0, 8) : any(0, 3);
+                Check.due(at + "wish", x.wish(a, wish) ? 1 : 0, plans.wish(a, wish));
+                break;
+            case 7:
+                Check.due(at + "round", x.round(), plans.round());
+                break;
+            case 8:
+                int stop = any(0, 6);
+                Check.due(at + "stop " + stop, x.stop(stop), plans.stop(stop));
+                break;
+            case 9:
+                int what = any(0, 1);
+                int atX = any(0, 99);
+                int atY = any(0, 99);
+                Check.due(at + "point", x.point(what, atX, atY), plans.point(what, atX, atY));
+                break;
+            case 10:
+                int k = any(0, plans.count(8) + 1);
+                Check.due(at + "places " + k, x.places(k), plans.places(k));
+                break;
+            default:
+                Check.due(at + "chosen", x.chosen(), plans.chosen());
         }
     }
 
@@ -91,8 +152,8 @@ public final class LongRunTest {
     private void ask(String at, int cabinet, int pack) {
         switch (random.nextInt(3)) {
             case 0:
-                int what = COUNTED[random.nextInt(COUNTED.length)];
-                Check.due(at + "count " + what, x.count(what), model.count(what));
+                int what = any(0, 10);
+                Check.due(at + "count " + what, x.count(what), plans.count(what));
                 break;
             case 1:
                 int ofWhat = any(0, 4);

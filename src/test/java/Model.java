@@ -7,6 +7,8 @@ import java.util.stream.Stream;
 /** Promises 2 to 14 written a second time, over lists and sorting, to compare long runs with. */
 final class Model {
     static final class Cabinet {
+        int x;
+        int y;
         int slots;
         int lines;
         int need;
@@ -39,7 +41,7 @@ final class Model {
         java.util.Arrays.fill(prices, 10);
     }
 
-    private Cabinet cabinetAt(int c) {
+    Cabinet cabinetAt(int c) {
         return c >= 0 && c < cabinets.size() ? cabinets.get(c) : null;
     }
 
@@ -47,7 +49,7 @@ final class Model {
         return p >= 0 && p < packs.size() ? packs.get(p) : null;
     }
 
-    private Stream<Pack> inside(Cabinet c) {
+    Stream<Pack> inside(Cabinet c) {
         return packs.stream().filter(p -> p.home == c);
     }
 
@@ -66,6 +68,8 @@ final class Model {
             return -1;
         }
         Cabinet c = new Cabinet();
+        c.x = x;
+        c.y = y;
         c.slots = slots;
         c.lines = lines;
         c.need = need;
