@@ -16,7 +16,27 @@ final class Check {
     private static int wrong = 0;
     private static int asked = 0;
 
+    /** Far more than a test needs, on a slow machine too. */
+    private static final long MOST_MILLISECONDS = 300_000;
+
+    static {
+        Thread guard = new Thread(Check::failIfItNeverEnds);
+        guard.setDaemon(true);
+        guard.start();
+    }
+
     private Check() {
+    }
+
+    /** A call that does not end is a fault as well, and would else hold up all tests. */
+    private static void failIfItNeverEnds() {
+        try {
+            Thread.sleep(MOST_MILLISECONDS);
+        } catch (InterruptedException e) {
+            return;
+        }
+        System.out.println("the test does not end");
+        Runtime.getRuntime().halt(1);
     }
 
     /** From here on answers are asked for one sentence of the document: where it stands, its words. */
